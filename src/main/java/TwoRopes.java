@@ -1407,7 +1407,7 @@ public final class TwoRopes {
         }
     }
 
-    /** The row of STEPS of the least cost, of several the one of the fewest, then the first, that brings NUMBERS to a goal. */
+    /** The row of STEPS that brings NUMBERS to a goal at the least cost; of several that of the fewest, then the first. */
     private static final class Search {
         private final long[] ps = new long[(LEAST_STEPS + 1) * BAG_NUMBERS];
         private final long[] qs = new long[(LEAST_STEPS + 1) * BAG_NUMBERS];
