@@ -1460,12 +1460,16 @@ public final class TwoRopes {
                 keep(depth, cost);
                 return;
             }
-            for (int step = OVER; depth < mostSteps && step <= ON; step++) {
-                if (!isUndone(depth, step)) {
-                    way[depth] = step;
-                    stepAll(depth, step);
-                    walk(depth + 1, cost + costs[step]);
-                }
+            for (int step = OVER; step <= ON; step++) {
+                walkOn(depth, cost, step);
+            }
+        }
+
+        private void walkOn(int depth, int cost, int step) {
+            if (depth < mostSteps && depth < way.length && !isUndone(depth, step)) {
+                way[depth] = step;
+                stepAll(depth, step);
+                walk(depth + 1, cost + costs[step]);
             }
         }
 
