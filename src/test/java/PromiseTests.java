@@ -1,32 +1,13 @@
 /** For each promise of the document: ordinary calls, the edges that it names, and wrong ones, with the answers due. */
-public final class PromiseTests {
-    private static final long FAR = -2000000000000L;
-    private static final long TRILLION = 1000000000000L;
-    private static final int NONE = TwoRopes.NONE;
-
-    private static int promise = 0;
-    private static int told = 0;
-    private static int wrong = 0;
-
-    private static void due(long got, long want) {
-        told++;
-        if (got != want) {
-            wrong++;
-            StackTraceElement place = new Throwable().getStackTrace()[1];
-            System.out.println("promise " + promise + ": line " + place.getLineNumber() + ": answered " + got + ", due is " + want);
-        }
+public final class PromiseTests extends Sentences {
+    /** Goes on to a promise. */
+    private static void go(int number) {
+        begin("## Promise " + number + ":");
     }
 
     private static TwoRopes on(int number) {
-        promise = number;
+        go(number);
         return new TwoRopes();
-    }
-
-    private static void fill(TwoRopes x, int s, int sort, long... elements) {
-        x.row(s, sort, elements.length);
-        for (int i = 0; i < elements.length; i++) {
-            x.set(s, i, elements[i]);
-        }
     }
 
     private static int barn(TwoRopes x, int s, String text) {
@@ -43,24 +24,8 @@ public final class PromiseTests {
         return x.fault();
     }
 
-    /** One FIGURE of each KIND, of the KIND's number, with its a, COST 1 and its number. */
     private static TwoRopes withKinds(int number, int a) {
-        TwoRopes x = on(number);
-        for (int kind = 0; kind < 7; kind++) {
-            x.figure(kind, a, 1 + kind);
-        }
-        return x;
-    }
-
-    private static void now(TwoRopes x, long p, long q) {
-        due(x.now(0), p);
-        due(x.now(1), q);
-    }
-
-    private static void stand(TwoRopes x, int... dancers) {
-        for (int corner = 0; corner < 4; corner++) {
-            due(x.stand(corner), dancers[corner]);
-        }
+        return withKinds("## Promise " + number + ":", a);
     }
 
     public static void main(String[] args) {
@@ -81,8 +46,7 @@ public final class PromiseTests {
         acts();
         images();
         statuses();
-        System.out.println(wrong == 0 ? told + " answers are as the promises have them" : wrong + " answers are not due");
-        System.exit(wrong == 0 ? 0 : 1);
+        end();
     }
 
     private static void shelves() {
@@ -253,7 +217,7 @@ public final class PromiseTests {
         due(x.figure(7, 0, 1), -1);
         due(x.status(0), 8);
 
-        promise = 10;
+        go(10);
         for (int m = 0; m < 8; m++) {
             due(x.figureOf(m, 0), m % 7);
             due(x.figureOf(m, 1), 9 - m);
@@ -511,7 +475,7 @@ public final class PromiseTests {
         due(x.judge(0, 1), NONE);
         due(x.status(1), 0);
 
-        promise = 18;
+        go(18);
         x.start(1, 2);
         due(x.told(0, 3, 0), -2);
         due(x.told(0, 3, 1), 5);
@@ -536,7 +500,7 @@ public final class PromiseTests {
         stand(x, 0, 1, 2, 3);
         due(x.status(1), 0);
 
-        promise = 19;
+        go(19);
         x.start(1, 2);
         due(x.dances(0, 5), -6);
         due(x.dances(0, 6), -5);
@@ -671,7 +635,7 @@ public final class PromiseTests {
         x.start(3, 1);
         due(x.undo(), 8);
         int[] steps = {2, 0, 2, 0, 0, 2, 0, 0};
-        promise = 23;
+        go(23);
         for (int i = 0; i < steps.length; i++) {
             due(x.undoes(i), steps[i]);
         }
@@ -679,7 +643,7 @@ public final class PromiseTests {
         due(x.undoes(-1), -5);
         due(x.undoes(Long.MIN_VALUE), -5);
         due(x.undoes(Long.MAX_VALUE), -5);
-        promise = 24;
+        go(24);
         due(x.made(3, 1, 0), 1);
         for (int i = 0; i < steps.length; i++) {
             due(x.made(3, 1, i), steps[steps.length - 1 - i] == 0 ? 1 : 2);
@@ -696,7 +660,7 @@ public final class PromiseTests {
         due(x.made(TRILLION, 1, 3 * TRILLION - 1), -5);
         due(x.made(TRILLION, 1, 0), 1);
 
-        promise = 22;
+        go(22);
         x.start(TRILLION, 1);
         due(x.undo(), 3 * TRILLION - 1);
         x.start(1, TRILLION);
@@ -808,7 +772,7 @@ public final class PromiseTests {
         due(x.side(5, 7, 0), 1);
         now(x, 1, 0);
 
-        promise = 28;
+        go(28);
         due(x.over(5, 7, 0), 5);
         due(x.over(5, 7, 1), 7);
         due(x.over(1, 0, 1), 0);
@@ -894,7 +858,7 @@ public final class PromiseTests {
         x.start(TRILLION - 1, 1);
         due(x.forgot(4, 2), 2);
 
-        promise = 32;
+        go(32);
         due(x.may(4, 2, 0), TRILLION - 3);
         due(x.may(4, 2, 1), 1);
         due(x.may(4, 2, 2), TRILLION - 1);
@@ -1086,15 +1050,6 @@ public final class PromiseTests {
         due(x.status(3), Integer.MIN_VALUE);
     }
 
-    private static void trace(TwoRopes x, int... bodies) {
-        due(x.status(4), bodies.length);
-        for (int i = 0; i < bodies.length; i++) {
-            due(x.trace(i), bodies[i]);
-        }
-        due(x.trace(bodies.length), NONE);
-        due(x.trace(-1), NONE);
-    }
-
     private static void acts() {
         TwoRopes x = withKinds(39, 4);
         due(x.act(0, 0, 10), 10);
@@ -1130,7 +1085,7 @@ public final class PromiseTests {
         trace(x, 70, 50, 12, 71, 11, 10, 10);
         due(x.act(6, 0, Integer.MAX_VALUE), Integer.MAX_VALUE + 6);
         due(x.act(2, 1, Integer.MAX_VALUE), (Integer.MAX_VALUE + 6) * 6);
-        promise = 40;
+        go(40);
         due(x.act(7, 0, 1), 0);
         trace(x);
         x.act(0, 0, 1);
@@ -1154,7 +1109,7 @@ public final class PromiseTests {
         x.call(0);
         x.seed(99);
         due(x.image(), 1);
-        promise = 42;
+        go(42);
         x.figure(4, 0, 1);
         x.show(0, 1);
         x.show(1, 0);

@@ -34,6 +34,7 @@ public final class RefusalTests extends Sentences {
         restored();
         never();
         order();
+        reasons();
         unchanged();
         end();
     }
@@ -697,9 +698,9 @@ public final class RefusalTests extends Sentences {
         stands(UNDER_STEP, x -> x.bag(3, 2, 1, 1));
         refused(-15, x -> x.bag(3, 2, 1, 2));
         refused(-15, x -> x.bag(3, 2, 1, -2));
-        // 0 by 1 is told in vain when all are alike; nothing of 7 STEPS tells what is told twice.
+        // 0 by 0 is no NUMBER; nothing tells what is told twice from itself.
         refused(-16, x -> x.bag(5, 4, 0, NONE));
-        stands(7, x -> told(x, 7));
+        stands(7, x -> alone(x, 7));
         refused(-15, x -> {
             fill(x, 7, 0, 7, 1, 1, 1, 7, 1);
             long answer = x.bag(7, 3, 0, NONE);
@@ -707,13 +708,13 @@ public final class RefusalTests extends Sentences {
             return answer;
         });
         refused(-15, x -> {
-            long answer = told(x, 8);
+            long answer = alone(x, 8);
             fill(x, 7, 0, 'c', 'a', 'l', 'l', ' ', '9');
             return answer;
         });
     }
 
-    private static long told(TwoRopes x, long number) {
+    private static long alone(TwoRopes x, long number) {
         fill(x, 7, 0, number, 1);
         return x.bag(7, 1, 0, NONE);
     }
@@ -844,6 +845,104 @@ public final class RefusalTests extends Sentences {
         stands(-5, y -> y.now(0));
         stands(-7, y -> y.side(-2, 1, 0));
         stands(-5, y -> y.told(6, 0, 0));
+    }
+
+    private static void reasons() {
+        of("-1 NOBODY: no such SHELF, FIGURE, KIND.", 3, 5);
+        for (int s : new int[] {-1, 8, LEAST, MOST}) {
+            Call[] calls = {x -> x.row(s, 0, 1), x -> x.set(s, 0, 1), x -> x.copy(s, 0, 0, 0, 1), x -> x.copy(0, s, 0, 0, 1),
+                x -> x.show(s, 0), x -> x.says(s, 0), x -> x.barn(s), x -> x.judge(s, 1), x -> x.dances(s, 1),
+                x -> x.same(s, 0, 1, true), x -> x.same(0, s, 1, true), x -> x.forgot(s, 1), x -> x.show(0, s == -1 ? -2 : s),
+                x -> x.call(s), x -> x.says(1, s), x -> x.figure(s, 0, 1)};
+            for (Call call : calls) {
+                refused(-1, call);
+            }
+            refused(FAR - 1, x -> x.told(s, 1, 0));
+            refused(FAR - 1, x -> x.repeated(s, 1, 1, 0));
+            refused(FAR - 1, x -> x.may(s, 1, 0));
+            refused(-11, x -> x.bag(s, 1, 0, 0));
+        }
+
+        of("-2 OTHER: a SHELF that holds a FIGURE where a ROW is wanted, or the other way about, ROWS of two SORTS,"
+                + " a FIGURE that isn't of the KIND wanted, or one under it.", 3, 5);
+        wanted(1, 2);
+        refused(-2, x -> x.says(0, DANCE));
+        refused(-2, x -> x.copy(0, 4, 0, 0, 1));
+        refused(-2, x -> x.copy(4, 3, 0, 0, 0));
+        refused(-2, x -> x.says(1, MANY));
+        stands(9, x -> x.says(1, UNDER));
+        stands(9, x -> x.says(1, CHANGE));
+
+        of("-3 NOTHING: a SHELF that holds NOTHING.", 3, 5);
+        wanted(2, 3);
+        refused(-3, x -> x.says(2, DANCE));
+
+        of("-6 WRONG: a number that may not be (a NUMBER told that isn't in least terms, Q below 0, P or Q beyond 10 to the"
+                + " power of 12), a FAULT, what can't be as things stand.", 3, 5);
+        long[][] wrong = {{2, 4}, {-6, 3}, {0, 5}, {0, 0}, {3, 0}, {-1, 0}, {1, -2}, {TRILLION + 1, 1}, {-TRILLION - 1, 1},
+            {1, TRILLION + 1}, {Long.MIN_VALUE, 1}, {Long.MIN_VALUE, Long.MIN_VALUE}, {1, Long.MAX_VALUE}};
+        for (long[] number : wrong) {
+            told(number[0], number[1]);
+        }
+        long[][] right = {{TRILLION, 1}, {-TRILLION, 1}, {-1, TRILLION}, {TRILLION - 1, TRILLION}};
+        for (long[] number : right) {
+            stands(1, x -> x.start(number[0], number[1]));
+            stands(0, x -> x.lot(9, number[0], number[1]));
+            stands(UNDER_STEP, x -> x.made(number[0], number[1], 0));
+            refused(-15, x -> x.least(number[0], number[1], NONE));
+            refused(-15, x -> x.cheapest(number[0], number[1], 1, 1, 1, NONE));
+            refused(FAR - 7, x -> x.side(number[0], number[1], 0));
+            refused(FAR - 7, x -> x.over(number[0], number[1], 0));
+        }
+
+        of("BAG by the first 2 times n elements (P, Q, and so on; longs whole) of the ROW in SHELF s:"
+                + " how many STEPS to tell the k-th (i NONE), the i-th of them.", 3, 5);
+        TwoRopes x = hall();
+        fill(x, 0, 3, 2, 1, (1L << 32) + 2, 1, 1, (1L << 32), TRILLION, 1, 9);
+        due(x.bag(0, 4, 0, NONE), 2);
+        due(x.bag(0, 4, 0, 1), UNDER_STEP);
+        due(x.bag(0, 4, 1, NONE), -15);
+        due(x.bag(0, 4, 2, NONE), -15);
+        due(x.bag(0, 4, 3, NONE), -15);
+        // As ints the first two were alike; the Q of the third would be 0.
+        fill(x, 0, 2, 2, 1, (1L << 32) + 2, 1, 1, (1L << 32), 5, 1);
+        due(x.bag(0, 4, 0, NONE), -15);
+        due(x.bag(0, 4, 2, NONE), 1);
+        due(x.bag(0, 4, 2, 0), ON_STEP);
+        due(x.bag(0, 4, 3, NONE), 5);
+        due(x.set(0, 7, -1), 1);
+        due(x.bag(0, 4, 3, NONE), -16);
+        due(x.bag(0, 3, 2, NONE), 1);
+    }
+
+    /** All that want a ROW, where there is none. */
+    private static void wanted(int s, int why) {
+        Call[] calls = {x -> x.set(s, 0, 1), x -> x.copy(s, 0, 0, 0, 1), x -> x.copy(0, s, 0, 0, 1), x -> x.barn(s),
+            x -> x.judge(s, 1), x -> x.dances(s, 1), x -> x.same(s, 0, 1, true), x -> x.same(0, s, 1, true),
+            x -> x.forgot(s, 1)};
+        for (Call call : calls) {
+            refused(-why, call);
+        }
+        refused(FAR - why, x -> x.told(s, 1, 0));
+        refused(FAR - why, x -> x.repeated(s, 1, 1, 0));
+        refused(FAR - why, x -> x.may(s, 1, 0));
+        refused(-10 - why, x -> x.bag(s, 1, 0, 0));
+    }
+
+    /** All to which a NUMBER is told that may not be. */
+    private static void told(long wrongP, long wrongQ) {
+        refused(-6, x -> x.start(wrongP, wrongQ));
+        refused(-6, x -> x.made(wrongP, wrongQ, 0));
+        refused(-6, x -> x.lot(1, wrongP, wrongQ));
+        refused(-16, x -> x.least(wrongP, wrongQ, NONE));
+        refused(-16, x -> x.cheapest(wrongP, wrongQ, 1, 1, 1, NONE));
+        refused(FAR - 6, x -> x.side(wrongP, wrongQ, 0));
+        refused(FAR - 6, x -> x.over(wrongP, wrongQ, 0));
+        TwoRopes x = hall();
+        fill(x, 0, 3, 1, 1, wrongP, wrongQ);
+        due(x.bag(0, 2, 0, NONE), -16);
+        due(x.bag(0, 2, 1, NONE), -16);
+        due(x.bag(0, 1, 0, NONE), 1);
     }
 
     private static void unchanged() {

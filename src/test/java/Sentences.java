@@ -45,13 +45,18 @@ abstract class Sentences {
         return text.replaceAll("\\s+", " ").trim();
     }
 
-    /** Begins the test of a sentence with a new object; its words are to stand in the document. */
-    static TwoRopes of(String sentence) {
+    /** Begins the test of a sentence; its words are to stand in the document. */
+    static void begin(String sentence) {
         words = sentence;
         ALL.add(sentence);
         if (TEXT != null && !TEXT.contains(plain(sentence))) {
             say("does not stand in the document");
         }
+    }
+
+    /** Begins the test of a sentence with a new object. */
+    static TwoRopes of(String sentence) {
+        begin(sentence);
         return new TwoRopes();
     }
 
@@ -111,6 +116,7 @@ abstract class Sentences {
             due(x.trace(i), bodies[i]);
         }
         due(x.trace(bodies.length), NONE);
+        due(x.trace(-1), NONE);
     }
 
     /** A new object with one FIGURE of each KIND, with the KIND's number, and COST 1 more than that. */

@@ -855,6 +855,15 @@ public final class TermsTests extends Sentences {
         now(x, TRILLION, 1);
         stand(x, 0, 2, 1, 3);
 
+        x = of("BY DRAWS: n STEPS, each a DRAW below 3");
+        due(x.draws(40), 40);
+        due(x.status(1), 40);
+        int drawn = 1;
+        for (int i = 0; i < 40; i++) {
+            drawn = after(drawn);
+        }
+        due(x.status(3), drawn);
+
         x = of("A DRAW below n: SEED (1 at first) becomes SEED times 1103515245, and 12345 (an int, wrapping);"
                 + " its upper 16 bits, no sign, modulo n.");
         due(x.status(3), 1);
@@ -1029,6 +1038,19 @@ public final class TermsTests extends Sentences {
         due(x.act(ROUND, 2, 10), -(24 ^ 12) ^ 5);
         trace(x, 70, 50, 12, 71, 11, 10, 10);
         due(x.act(ROUND, 1, Integer.MIN_VALUE), (Integer.MIN_VALUE + 2) * 2);
+
+        x = withKinds("calls(..) and so on: the body of the FIGURE's KIND, or of the next KIND above that has one;"
+                + " super: from the KIND above the body's on.", 0);
+        int[][][] all = {{{10}, {11, 10}, {12, 11, 10, 10}}, {{20, 10}, {11, 20, 10}, {12, 11, 20, 10, 20, 10}},
+            {{20, 10}, {30, 11, 20, 10}, {12, 30, 11, 20, 10, 20, 10}},
+            {{20, 10}, {40, 11, 20, 10}, {41, 12, 40, 11, 20, 10, 20, 10}}, {{10}, {11, 10}, {50, 12, 11, 10, 10}},
+            {{60, 10}, {11, 60, 10}, {50, 12, 11, 60, 10, 60, 10}}, {{10}, {71, 11, 10}, {70, 50, 12, 71, 11, 10, 10}}};
+        for (int kind = DANCE; kind <= ROUND; kind++) {
+            for (int act = 0; act < 3; act++) {
+                x.act(kind, act, 1000);
+                trace(x, all[kind][act]);
+            }
+        }
 
         x = withKinds("ACTS of FIGURES, with x (wrapping): 0 calls, 1 steps, 2 knots; m the number, k its a.", 0);
         due(x.act(DANCE, -1, 10), 0);
